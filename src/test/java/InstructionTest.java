@@ -56,7 +56,7 @@ public final class InstructionTest {
         for (int pair = 0; pair < 4; pair++) {
             PortProcessor processor = Check.with(0x01 + 16 * pair, 0xCD, 0xAB);
             processor.run(1);
-            Check.same("pair " + pair + " filled", pairOf(processor, pair), 0xABCD);
+            Check.same("pair " + pair + " filled", Pairs.of(processor, pair), 0xABCD);
             Check.same("PC", processor.register(10), 3);
         }
     }
@@ -66,12 +66,12 @@ public final class InstructionTest {
         for (int pair = 0; pair < 4; pair++) {
             for (int before : befores) {
                 PortProcessor processor = Check.with(0x03 + 16 * pair, 0x0B + 16 * pair, 0x0B + 16 * pair);
-                setPair(processor, pair, before);
+                Pairs.set(processor, pair, before);
                 processor.set(8, 0xD5);
                 processor.run(1);
-                Check.same("pair " + pair + " risen from " + before, pairOf(processor, pair), before + 1 & 65535);
+                Check.same("pair " + pair + " risen from " + before, Pairs.of(processor, pair), before + 1 & 65535);
                 processor.run(2);
-                Check.same("pair " + pair + " fallen to before " + before, pairOf(processor, pair), before - 1 & 65535);
+                Check.same("pair " + pair + " fallen to before " + before, Pairs.of(processor, pair), before - 1 & 65535);
                 Check.same("flags", processor.register(8), 0xD7);
             }
         }
@@ -84,27 +84,27 @@ public final class InstructionTest {
         for (int i = 0; i < 3; i++) {
             for (int[] c : cases) {
                 PortProcessor processor = Check.with(codes[i]);
-                setPair(processor, 2, c[0]);
-                setPair(processor, pairs[i], c[1]);
+                Pairs.set(processor, 2, c[0]);
+                Pairs.set(processor, pairs[i], c[1]);
                 processor.set(8, 0xD4 | 1 - c[3]);
                 processor.run(1);
-                Check.same("HL", pairOf(processor, 2), c[2]);
+                Check.same("HL", Pairs.of(processor, 2), c[2]);
                 Check.same("flags", processor.register(8), 0xD6 | c[3]);
-                Check.same("the pair", pairOf(processor, pairs[i]), c[1]);
+                Check.same("the pair", Pairs.of(processor, pairs[i]), c[1]);
             }
         }
         PortProcessor processor = Check.with(0x29);
-        setPair(processor, 2, 0x8101);
+        Pairs.set(processor, 2, 0x8101);
         processor.run(1);
-        Check.same("HL twice", pairOf(processor, 2), 0x0202);
+        Check.same("HL twice", Pairs.of(processor, 2), 0x0202);
         Check.same("flags", processor.register(8), 3);
     }
 
     private static void storesAndFetches() {
         PortProcessor processor = Check.with(0x02, 0x12, 0x32, 0x02, 0x03, 0x22, 0x03, 0x03);
-        setPair(processor, 0, 0x300);
-        setPair(processor, 1, 0x301);
-        setPair(processor, 2, 0xBBAA);
+        Pairs.set(processor, 0, 0x300);
+        Pairs.set(processor, 1, 0x301);
+        Pairs.set(processor, 2, 0xBBAA);
         processor.set(7, 99);
         processor.run(4);
         int[] due = {99, 99, 99, 0xAA, 0xBB, 0};
@@ -112,23 +112,23 @@ public final class InstructionTest {
             Check.same("peek " + i, processor.peek(0x300 + i), due[i]);
         }
         PortProcessor fetcher = Check.with(0x0A, 0x1A, 0x3A, 0x02, 0x03, 0x2A, 0x03, 0x03);
-        setPair(fetcher, 0, 0x300);
-        setPair(fetcher, 1, 0x301);
+        Pairs.set(fetcher, 0, 0x300);
+        Pairs.set(fetcher, 1, 0x301);
         Check.place(fetcher, 0x300, 1, 2, 3, 4, 5);
         for (int i = 1; i <= 3; i++) {
             fetcher.run(1);
             Check.same("A", fetcher.register(7), i);
         }
         fetcher.run(1);
-        Check.same("HL", pairOf(fetcher, 2), 0x0504);
+        Check.same("HL", Pairs.of(fetcher, 2), 0x0504);
     }
 
     private static void storesAndFetchesAtTheEdges() {
         PortProcessor processor = Check.with(0x22, 0xFF, 0x03, 0x2A, 0xFF, 0x03, 0x32, 0x00, 0x04, 0x3A, 0x00, 0x04);
-        setPair(processor, 2, 0x1234);
+        Pairs.set(processor, 2, 0x1234);
         processor.run(2);
         Check.same("peek(1023)", processor.peek(1023), 0x34);
-        Check.same("HL from 3FF and 400", pairOf(processor, 2), 0xFF34);
+        Check.same("HL from 3FF and 400", Pairs.of(processor, 2), 0xFF34);
         processor.set(7, 1);
         processor.run(2);
         Check.same("A from 400", processor.register(7), 255);
@@ -136,7 +136,7 @@ public final class InstructionTest {
 
         PortProcessor wrapping = Check.with(0x2A, 0xFF, 0xFF, 0x22, 0xFF, 0xFF);
         wrapping.run(1);
-        Check.same("HL from FFFF and 0", pairOf(wrapping, 2), 0x2AFF);
+        Check.same("HL from FFFF and 0", Pairs.of(wrapping, 2), 0x2AFF);
         wrapping.set(4, 0x77);
         wrapping.run(1);
         Check.same("H come to 0", wrapping.peek(0), 0x77);
@@ -144,7 +144,7 @@ public final class InstructionTest {
 
     private static void changesM() {
         PortProcessor processor = Check.with(0x34, 0x34, 0x35, 0x86, 0xBE);
-        setPair(processor, 2, 0x200);
+        Pairs.set(processor, 2, 0x200);
         processor.load(0x200, 254, 1);
         processor.run(1);
         Check.same("M risen", processor.peek(0x200), 255);
@@ -162,7 +162,7 @@ public final class InstructionTest {
         Check.same("flags", processor.register(8), 0x03);
 
         PortProcessor outside = Check.with(0x34, 0x36, 7, 0x7E);
-        setPair(outside, 2, 0x400);
+        Pairs.set(outside, 2, 0x400);
         outside.run(1);
         Check.same("flags of 255 risen", outside.register(8), 0x56);
         Check.same("M outside", outside.register(6), 255);
@@ -227,7 +227,7 @@ public final class InstructionTest {
         for (int pair = 0; pair < 3; pair++) {
             PortProcessor processor = Check.with(0xC5 + 16 * pair);
             processor.set(9, 900);
-            setPair(processor, pair, 0x8765);
+            Pairs.set(processor, pair, 0x8765);
             processor.run(1);
             Check.same("SP", processor.register(9), 898);
             Check.same("pushed high", processor.peek(899), 0x87);
@@ -236,7 +236,7 @@ public final class InstructionTest {
             popper.set(9, 500);
             Check.place(popper, 500, 0x21, 0x43);
             popper.run(1);
-            Check.same("popped", pairOf(popper, pair), 0x4321);
+            Check.same("popped", Pairs.of(popper, pair), 0x4321);
             Check.same("SP", popper.register(9), 502);
         }
         for (int flags = 0; flags < 256; flags++) {
@@ -254,22 +254,22 @@ public final class InstructionTest {
 
     private static void usesTheStackAtTheEdges() {
         PortProcessor processor = Check.with(0xC5, 0xD1);
-        setPair(processor, 0, 0x1234);
+        Pairs.set(processor, 0, 0x1234);
         processor.set(9, 1);
         processor.run(1);
         Check.same("SP fallen below 0", processor.register(9), 65535);
         Check.same("the higher byte at 0", processor.peek(0), 0x12);
         processor.run(1);
-        Check.same("popped at FFFF and 0", pairOf(processor, 1), 0x12FF);
+        Check.same("popped at FFFF and 0", Pairs.of(processor, 1), 0x12FF);
         Check.same("SP", processor.register(9), 1);
 
         PortProcessor top = Check.with(0xC5, 0xD1);
-        setPair(top, 0, 0x1234);
+        Pairs.set(top, 0, 0x1234);
         top.set(9, 1025);
         top.run(1);
         Check.same("the lower byte at 1023", top.peek(1023), 0x34);
         top.run(1);
-        Check.same("popped at 1023 and 1024", pairOf(top, 1), 0xFF34);
+        Check.same("popped at 1023 and 1024", Pairs.of(top, 1), 0xFF34);
 
         PortProcessor first = Check.with(0xCD, 0x00, 0x01);
         first.run(1);
@@ -279,35 +279,35 @@ public final class InstructionTest {
 
     private static void exchanges() {
         PortProcessor processor = Check.with(0xE3, 0xEB, 0xF9, 0xE9);
-        setPair(processor, 2, 0x1234);
-        setPair(processor, 1, 0x0155);
+        Pairs.set(processor, 2, 0x1234);
+        Pairs.set(processor, 1, 0x0155);
         processor.set(9, 900);
         Check.place(processor, 900, 0x78, 0x56);
         processor.run(1);
-        Check.same("HL", pairOf(processor, 2), 0x5678);
+        Check.same("HL", Pairs.of(processor, 2), 0x5678);
         Check.same("SP", processor.register(9), 900);
         Check.same("the byte at SP", processor.peek(900), 0x34);
         Check.same("the byte at SP + 1", processor.peek(901), 0x12);
         processor.run(1);
-        Check.same("HL", pairOf(processor, 2), 0x0155);
-        Check.same("DE", pairOf(processor, 1), 0x5678);
+        Check.same("HL", Pairs.of(processor, 2), 0x0155);
+        Check.same("DE", Pairs.of(processor, 1), 0x5678);
         processor.run(2);
         Check.same("SP", processor.register(9), 0x0155);
         Check.same("PC", processor.register(10), 0x0155);
-        Check.same("HL", pairOf(processor, 2), 0x0155);
+        Check.same("HL", Pairs.of(processor, 2), 0x0155);
 
         PortProcessor edge = Check.with(0xE3);
-        setPair(edge, 2, 0x1234);
+        Pairs.set(edge, 2, 0x1234);
         edge.set(9, 1023);
         edge.run(1);
-        Check.same("HL", pairOf(edge, 2), 0xFF00);
+        Check.same("HL", Pairs.of(edge, 2), 0xFF00);
         Check.same("peek(1023)", edge.peek(1023), 0x34);
 
         PortProcessor wrapping = Check.with(0xE3);
-        setPair(wrapping, 2, 0x1234);
+        Pairs.set(wrapping, 2, 0x1234);
         wrapping.set(9, 65535);
         wrapping.run(1);
-        Check.same("HL", pairOf(wrapping, 2), 0xE3FF);
+        Check.same("HL", Pairs.of(wrapping, 2), 0xE3FF);
         Check.same("peek(0)", wrapping.peek(0), 0x12);
     }
 
@@ -317,7 +317,7 @@ public final class InstructionTest {
         processor.load(1023, 0x01, 1);
         processor.start(1023);
         processor.run(1);
-        Check.same("BC", pairOf(processor, 0), 0xFFFF);
+        Check.same("BC", Pairs.of(processor, 0), 0xFFFF);
         Check.same("PC", processor.register(10), 1026);
 
         // 255 at 65535 calls to 38; what it pushes is the address behind it, 0.
@@ -343,19 +343,6 @@ public final class InstructionTest {
             }
             Check.same("SP", processor.register(9), 3);
             Check.same("PC", processor.register(10), 1);
-        }
-    }
-
-    private static int pairOf(PortProcessor processor, int pair) {
-        return pair == 3 ? processor.register(9) : processor.register(2 * pair) * 256 + processor.register(2 * pair + 1);
-    }
-
-    private static void setPair(PortProcessor processor, int pair, int value) {
-        if (pair == 3) {
-            processor.set(9, value);
-        } else {
-            processor.set(2 * pair, value / 256);
-            processor.set(2 * pair + 1, value % 256);
         }
     }
 }
