@@ -20,7 +20,9 @@ public final class EdgeOfAddressesTest {
 
     /** "03 + 10 p: p rises by 1". */
     private static void pairsRise() {
-        int[][] cases = {{0, 1}, {254, 255}, {255, 256}, {256, 257}, {0x7FFF, 0x8000}, {0xFEFF, 0xFF00}, {65534, 65535}, {65535, 0}};
+        int[][] cases = {
+            {0, 1}, {254, 255}, {255, 256}, {256, 257}, {0x7FFF, 0x8000}, {0xFEFF, 0xFF00}, {65534, 65535}, {65535, 0},
+        };
         for (int pair = 0; pair < 4; pair++) {
             for (int[] c : cases) {
                 counts(0x03 + 16 * pair, pair, c[0], c[1]);
@@ -30,7 +32,9 @@ public final class EdgeOfAddressesTest {
 
     /** "0B + 10 p: falls". */
     private static void pairsFall() {
-        int[][] cases = {{0, 65535}, {1, 0}, {255, 254}, {256, 255}, {257, 256}, {0x8000, 0x7FFF}, {0xFF00, 0xFEFF}, {65535, 65534}};
+        int[][] cases = {
+            {0, 65535}, {1, 0}, {255, 254}, {256, 255}, {257, 256}, {0x8000, 0x7FFF}, {0xFF00, 0xFEFF}, {65535, 65534},
+        };
         for (int pair = 0; pair < 4; pair++) {
             for (int[] c : cases) {
                 counts(0x0B + 16 * pair, pair, c[0], c[1]);

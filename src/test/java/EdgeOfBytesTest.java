@@ -22,6 +22,7 @@ public final class EdgeOfBytesTest {
         turns();
         turnsThroughCarry();
         turnsOver();
+        conditionsTurn();
         flagsAsAByte();
         becomesTheLeastAndTheMost();
         Check.finish();
@@ -291,6 +292,40 @@ public final class EdgeOfBytesTest {
         turned(0x37, 5, 1, 5, 1);
         turned(0x3F, 5, 0, 5, 1);
         turned(0x3F, 5, 1, 5, 0);
+    }
+
+    /** "Conditions c: NZ Z NC C PO PE P M", behind sums at which the flags turn. */
+    private static void conditionsTurn() {
+        holds(0, 0, "Z NC PE P");
+        holds(0, 1, "NZ NC PO P");
+        holds(127, 0, "NZ NC PO P");
+        holds(127, 1, "NZ NC PO M");
+        holds(254, 1, "NZ NC PE M");
+        holds(255, 0, "NZ NC PE M");
+        holds(255, 1, "Z C PE P");
+        holds(255, 255, "NZ C PO M");
+    }
+
+    private static void holds(int a, int s, String due) {
+        String[] names = {"NZ", "Z", "NC", "C", "PO", "PE", "P", "M"};
+        for (int c = 0; c < 8; c++) {
+            boolean met = (" " + due + " ").contains(" " + names[c] + " ");
+            String what = names[c] + " behind " + a + " + " + s;
+            goes(what + ", jump", a, s, 0xC2 + 8 * c, met ? 0x234 : 0x185, 900, 10);
+            goes(what + ", call", a, s, 0xC4 + 8 * c, met ? 0x234 : 0x185, met ? 898 : 900, met ? 17 : 11);
+            goes(what + ", return", a, s, 0xC0 + 8 * c, met ? 0x166 : 0x183, met ? 902 : 900, met ? 11 : 5);
+        }
+    }
+
+    private static void goes(String what, int a, int s, int code, int pc, int sp, int states) {
+        PortProcessor processor = ready(0xC6, s, code, 0x34, 0x02);
+        processor.load(900, 0x6601, 2);
+        processor.set(7, a);
+        processor.set(9, 900);
+        processor.run(2);
+        Check.same(what + ": PC", processor.register(10), pc);
+        Check.same(what + ": SP", processor.register(9), sp);
+        Check.same(what + ": states()", processor.states(), 7 + states);
     }
 
     /** "as a byte: bit 5 0, 3 0, 1 1", and "popped: only their five bits count". */
